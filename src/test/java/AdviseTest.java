@@ -8,6 +8,7 @@ public final class AdviseTest {
         firstOfEqualFields(c);
         firstOfEqualHeights(c);
         heightsUpToTheBank(c);
+        theLargestSlope(c);
         nothingIsChanged(c);
         theLastDay(c);
         wrongOnes(c);
@@ -127,6 +128,17 @@ public final class AdviseTest {
         y.setShare(0, 0);
         // Of 125, the stone at 110 lets 15 come to the rain's 5 below, and the crop drowns; at 120 it lets 5 come.
         due(c, "120 keeps the crop from drowning", y, 1, 0, 0, 120);
+    }
+
+    /** A crop in the last field alone is too deep; its own stone is the last one that is looked at. */
+    private static void theLargestSlope(Checks c) {
+        PaddyTerraces x = Slopes.withoutSpring(8, 8);
+        due(c, "8 by 8 without a crop", x, 10, -1, -1, -1);
+        x.setField(7, 7, 120, 0);
+        x.moveStone(7, 7, 120);
+        x.plant(7, 7, 20);
+        x.setDay(0, 20, 0, 0);
+        due(c, "8 by 8", x, 1, 7, 7, 10);
     }
 
     private static void nothingIsChanged(Checks c) {

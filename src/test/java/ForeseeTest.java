@@ -4,6 +4,7 @@ public final class ForeseeTest {
         Checks c = new Checks();
         whatComes(c);
         foreseenComesTrue(c);
+        allThatIsSetCounts(c);
         theLastDay(c);
         wrongOnes(c);
         c.end();
@@ -46,6 +47,32 @@ public final class ForeseeTest {
             c.due("brook then", x.count(5) - before, brook);
             c.due("depths then", x.count(4), depths);
         }
+    }
+
+    /** Of 100, 80 come to the left column by its share: 40 go out to the right, 20 of what is left spill. */
+    private static void allThatIsSetCounts(Checks c) {
+        PaddyTerraces x = new PaddyTerraces();
+        x.lay(2, 2);
+        x.setShare(0, 4);
+        x.setField(0, 0, 20, 0);
+        x.setField(1, 1, 120, 0);
+        x.moveStone(1, 1, 120);
+        x.turn(0, 0, 1);
+        x.setDay(0, 1, 100, 0);
+        // (0, 0): 81, 40 out to (1, 1), 21 spill, 10 to the brook; (0, 1): 21 and 11, 2 out, 2 lost; (1, 0): 1, lost.
+        c.due("foresee(1, 3)", x.foresee(1, 3), 20 + 28 + 0 + (1 + 40 + 2));
+        c.due("foresee(1, 2)", x.foresee(1, 2), 10);
+
+        PaddyTerraces dry = Slopes.withoutSpring(2, 2);
+        dry.plant(1, 1, 20);
+        dry.pass(4);
+        c.due("foresee(1, 0) of a crop dry for 4 days", dry.foresee(1, 0), 0);
+        PaddyTerraces drowned = Slopes.withoutSpring(2, 2);
+        Slopes.close(drowned, 0, 0);
+        drowned.plant(0, 0, 0);
+        Slopes.passOne(drowned, 60, 0, 0);
+        drowned.pass(2);
+        c.due("foresee(1, 0) of a crop drowned for 3 days", drowned.foresee(1, 0), 0);
     }
 
     private static void theLastDay(Checks c) {

@@ -44,6 +44,11 @@ public final class ReapTest {
         x.pass(60);
         c.due("field(0, 0, 7)", x.field(0, 0, 7), 100);
         c.due("reap at the age 60", x.reap(0, 0), 60);
+        PaddyTerraces y = Slopes.fiveDeep();
+        y.plant(0, 0, 20);
+        y.pass(60);
+        y.pass(20);
+        c.due("reap at the age 100", y.reap(0, 0), 100);
     }
 
     private static void wrongOnes(Checks c) {
