@@ -29,9 +29,10 @@ public final class P09ReapBoundsTest {
         c.due("it stays fallow", x.field(0, 0, 6), 0);
     }
 
-    /** A crop of the age 20 that stands 5 deep is harder by 2 on each day. */
+    /** A crop of the age 20 that stands 5 deep is harder by 2 on each day: 53 * 66 are 2 less than 3500. */
     private static void ageByHardnessCut(Checks c) {
-        int[][] daysAndHarvest = {{20, 40 * 40 / 100}, {21, 17}, {22, 18}, {23, 19}, {50, 70}, {51, 71}, {60, 80}};
+        int[][] daysAndHarvest = {{20, 16}, {21, 17}, {22, 18}, {23, 19}, {30, 30}, {33, 34}, {47, 62}, {50, 70},
+            {51, 71}, {60, 80}};
         for (int[] row : daysAndHarvest) {
             PaddyTerraces x = Slopes.fiveDeep();
             x.plant(0, 0, 20);
@@ -66,6 +67,9 @@ public final class P09ReapBoundsTest {
         PaddyTerraces longDry = ripe(5, 2);
         c.due("field(0, 0, 7)", longDry.field(0, 0, 7), 34);
         c.due("of 14, the half even", longDry.reap(0, 0), 14 + 7);
+        PaddyTerraces cutFirst = grown(22, 5, 1);
+        c.dueField("of 43 * 41", cutFirst, 0, 0, 0, 120, 5, 120, 0, 1, 43, 41, 0, 1);
+        c.due("of 17, not of 17.63, the half cut", cutFirst.reap(0, 0), 17 + 8);
         PaddyTerraces wet = ripe(4, 1);
         c.dueField("1 deep", wet, 0, 0, 1, 120, 4, 120, 0, 1, 41, 41, 0, 0);
         c.due("of 16, nothing more", wet.reap(0, 0), 16);
@@ -76,11 +80,16 @@ public final class P09ReapBoundsTest {
 
     /** A crop of the age 40 and the hardness 40, 5 deep, that seeps so much for some days more. */
     private static PaddyTerraces ripe(int seepage, int days) {
+        return grown(20, seepage, days);
+    }
+
+    /** A crop planted at the age 20 that stood 5 deep for so long, and seeps so much for some days more. */
+    private static PaddyTerraces grown(int daysBefore, int seepage, int days) {
         PaddyTerraces x = Slopes.withoutWeather(2, 2);
         Slopes.close(x, 0, 0);
         x.plant(0, 0, 20);
         Slopes.rainOnce(x, 5);
-        x.pass(19);
+        x.pass(daysBefore - 1);
         x.setField(0, 0, 120, seepage);
         if (days > 0) {
             x.pass(days);

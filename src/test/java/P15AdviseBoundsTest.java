@@ -192,8 +192,8 @@ public final class P15AdviseBoundsTest {
     }
 
     /**
-     * 45 are kept above a crop on dry ground. For a day, 15 of it are best; for ten days, 25: they drown the crop on two
-     * of them, but last for all of them.
+     * 45 are kept above a crop on dry ground. For a day, 15 of it are best; for ten days, 25: they drown the crop on
+     * two of them, but last for all of them.
      */
     private static void oneDayAndTen(Checks c) {
         PaddyTerraces x = Slopes.withoutWeather(2, 2);

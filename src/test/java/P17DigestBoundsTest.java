@@ -11,10 +11,10 @@ public final class P17DigestBoundsTest {
 
     static Sentences sentences() {
         Sentences s = Sentences.ofPromise(17);
-        s.test("A number d starts with 443; for each of the following numbers x, d becomes d * 31 + x, which wraps around"
-            + " as a 64-bit integer", P17DigestBoundsTest::wrapsAroundAs64Bits);
-        s.test("what count() tells, in its order; the shares; for each field, in the order of terraces and columns, what"
-            + " field() tells, in its order; for each day of the calendar what weather() tells, in its order",
+        s.test("A number d starts with 443; for each of the following numbers x, d becomes d * 31 + x, which wraps"
+            + " around as a 64-bit integer", P17DigestBoundsTest::wrapsAroundAs64Bits);
+        s.test("what count() tells, in its order; the shares; for each field, in the order of terraces and columns,"
+            + " what field() tells, in its order; for each day of the calendar what weather() tells, in its order",
             P17DigestBoundsTest::whatIsToldInItsOrder);
         s.test("Returns d.", P17DigestBoundsTest::nothingElseCounts);
         return s;
