@@ -1,7 +1,10 @@
+import java.io.IOException;
 import java.lang.reflect.Constructor;
 import java.lang.reflect.Field;
 import java.lang.reflect.Method;
 import java.lang.reflect.Modifier;
+import java.nio.file.Files;
+import java.nio.file.Path;
 import java.util.Arrays;
 import java.util.List;
 import java.util.Set;
@@ -27,8 +30,9 @@ public final class FaceTest {
         "double depth() ",
         "long digest() ");
 
-    public static void main(String[] args) {
+    public static void main(String[] args) throws IOException {
         Checks c = new Checks();
+        dueAsInTheDocument(c);
         Class<?> program = PaddyTerraces.class;
         int modifiers = program.getModifiers();
         c.due("the class is public and final", Modifier.isPublic(modifiers) && Modifier.isFinal(modifiers) ? 1 : 0, 1);
@@ -47,6 +51,21 @@ public final class FaceTest {
             c.due("the class " + inside.getSimpleName() + " is static and not public", kept ? 1 : 0, 1);
         }
         c.end();
+    }
+
+    /** Each line of the document's face stands in the program too, with the names of the parameters. */
+    private static void dueAsInTheDocument(Checks c) throws IOException {
+        String document = Files.readString(Path.of("../shared/DOC.md"));
+        int begin = document.indexOf("```java\n", document.indexOf("## The public face")) + "```java\n".length();
+        String face = document.substring(begin, document.indexOf("```", begin));
+        String program = Files.readString(Path.of("src/main/java/PaddyTerraces.java")).replaceAll("\\s+", " ");
+        int lines = 0;
+        for (String line : face.lines().map(String::strip).filter(told -> told.startsWith("public")).toList()) {
+            String due = line.replaceAll("[;{]$", "").strip() + " {";
+            c.due("the program has \"" + due + "\" (1 if so)", program.contains(due) ? 1 : 0, 1);
+            lines++;
+        }
+        c.due("lines of the document's face: the class, its constructor and methods", lines, 2 + FACE.size());
     }
 
     private static void dueMethods(Checks c, Class<?> program) {
